@@ -546,7 +546,7 @@ public final class Nestedfare {
         }
 
         private int mostFor(int left) {
-            int served = Math.min(left, length);
+            int served = left < length ? left : length;
             return served >= 0 && served < sums.length ? sums[served] : 0;
         }
     }

@@ -24,18 +24,6 @@ public final class ChangesTest {
         Check.finish();
     }
 
-    private static Nestedfare with(int first, int second, int third) {
-        Nestedfare x = new Nestedfare();
-        x.setSeats(first, second, third);
-        return x;
-    }
-
-    private static void askOften(Nestedfare x, int product, int times) {
-        for (int i = 0; i < times; i++) {
-            x.ask(product);
-        }
-    }
-
     private static void promise1() {
         Nestedfare x = new Nestedfare();
         Check.same("1 products", x.products(), 0);
@@ -60,7 +48,7 @@ public final class ChangesTest {
     }
 
     private static void promise2() {
-        Nestedfare x = with(10, 0, 7);
+        Nestedfare x = Given.with(10, 0, 7);
         Check.same("2 leg 0", x.authorised(0), 10);
         Check.same("2 leg 1", x.authorised(1), 0);
         Check.same("2 leg 2", x.authorised(2), 7);
@@ -80,7 +68,7 @@ public final class ChangesTest {
     }
 
     private static void promise3() {
-        Nestedfare x = with(3, 3, 3);
+        Nestedfare x = Given.with(3, 3, 3);
         Check.same("3 number 0", x.addProduct(0, 2, 1), 0);
         Check.same("3 number 1", x.addProduct(0, 2, 1000), 1);
         Check.same("3 one leg", x.addProduct(1, 1, 1000), 2);
@@ -98,7 +86,7 @@ public final class ChangesTest {
     }
 
     private static void promise3TellsTheFirstExceptionNamed() {
-        Nestedfare x = with(3, 3, 3);
+        Nestedfare x = Given.with(3, 3, 3);
         for (int edge : EDGES) {
             Check.noSuch("3 first", () -> x.addProduct(edge, 2, 0));
             Check.noSuch("3 last", () -> x.addProduct(0, edge, 0));
@@ -117,7 +105,7 @@ public final class ChangesTest {
     }
 
     private static void promise4() {
-        Nestedfare x = with(2, 2, 2);
+        Nestedfare x = Given.with(2, 2, 2);
         x.addProduct(0, 0, 50);
         Check.same("4 from 0", x.setExpected(0, 20), 0);
         Check.same("4 from 20", x.setExpected(0, 1), 20);
@@ -130,14 +118,14 @@ public final class ChangesTest {
         Check.outOfRange("4 many -1", () -> x.setExpected(0, -1));
         Check.outOfRange("4 many 21", () -> x.setExpected(0, 21));
         Check.same("4 unchanged", x.expected(0), 0);
-        askOften(x, 0, 30);
+        Given.askOften(x, 0, 30);
         x.endDay(0);
         Check.same("4 more than 20 were learnt", x.setExpected(0, 3), 30);
         Check.same("4 set over the learnt ones", x.expected(0), 3);
     }
 
     private static void promise5() {
-        Nestedfare x = with(10, 7, 1);
+        Nestedfare x = Given.with(10, 7, 1);
         Check.same("5 from 100", x.setRate(50), 100);
         Check.same("5 half more", x.authorised(0), 15);
         Check.same("5 from 50", x.setRate(75), 50);
@@ -152,7 +140,7 @@ public final class ChangesTest {
     }
 
     private static void promise6Books() {
-        Nestedfare x = with(3, 3, 3);
+        Nestedfare x = Given.with(3, 3, 3);
         x.addProduct(0, 1, 40);
         x.addProduct(2, 2, 7);
         Check.same("6 booking 0", x.ask(0), 0);
@@ -169,7 +157,7 @@ public final class ChangesTest {
     }
 
     private static void promise6Full() {
-        Nestedfare x = with(4, 1, 4);
+        Nestedfare x = Given.with(4, 1, 4);
         x.addProduct(0, 2, 40);
         x.addProduct(0, 0, 10);
         Check.same("6 takes the one seat", x.ask(0), 0);
@@ -188,11 +176,11 @@ public final class ChangesTest {
     }
 
     private static void promise6Protected() {
-        Nestedfare x = with(3, 3, 3);
+        Nestedfare x = Given.with(3, 3, 3);
         x.addProduct(0, 0, 100);
         x.addProduct(0, 2, 60);
         x.addProduct(0, 0, 60);
-        askOften(x, 0, 2);
+        Given.askOften(x, 0, 2);
         x.endDay(100);
         x.setExpected(0, 0);
         Check.same("6 protected on leg 0", x.protectedSeats(0, 60), 2);
@@ -212,7 +200,7 @@ public final class ChangesTest {
     }
 
     private static void promise6Below() {
-        Nestedfare x = with(1, 1, 2);
+        Nestedfare x = Given.with(1, 1, 2);
         x.addProduct(0, 1, 99);
         x.addProduct(0, 0, 60);
         x.addProduct(1, 1, 40);
@@ -228,7 +216,7 @@ public final class ChangesTest {
         x.cancel(0);
         Check.same("6 100 is not below 100", x.ask(3), 1);
 
-        Nestedfare y = with(1, 0, 0);
+        Nestedfare y = Given.with(1, 0, 0);
         y.addProduct(0, 0, 10);
         y.addProduct(0, 0, 70);
         y.setExpected(1, 1);
@@ -236,12 +224,12 @@ public final class ChangesTest {
         Check.same("6 who asks comes no more", y.ask(1), Nestedfare.FULL);
         Check.same("6 none to come", y.worth(), 0);
 
-        Nestedfare z = with(1, 0, 0);
+        Nestedfare z = Given.with(1, 0, 0);
         z.addProduct(0, 0, 10);
         z.setExpected(0, 1);
         Check.same("6 the passenger counted first", z.ask(0), 0);
 
-        Nestedfare full = with(1, 0, 0);
+        Nestedfare full = Given.with(1, 0, 0);
         full.addProduct(0, 0, 10);
         full.addProduct(0, 0, 70);
         full.setExpected(1, 2);
@@ -249,7 +237,7 @@ public final class ChangesTest {
     }
 
     private static void promise6Throws() {
-        Nestedfare x = with(10, 10, 10);
+        Nestedfare x = Given.with(10, 10, 10);
         x.addProduct(0, 0, 10);
         String before = Answers.of(x);
         for (int wrong : new int[] {Integer.MIN_VALUE, -1, 1, 7, 8, Integer.MAX_VALUE}) {
@@ -269,7 +257,7 @@ public final class ChangesTest {
     }
 
     private static void promise7() {
-        Nestedfare x = with(4, 5, 6);
+        Nestedfare x = Given.with(4, 5, 6);
         x.addProduct(0, 2, 1);
         Check.same("7 booking", x.group(0, 2, 3, 10), 0);
         Check.same("7 leg 0", x.booked(0), 3);
@@ -293,7 +281,7 @@ public final class ChangesTest {
     }
 
     private static void promise7Below() {
-        Nestedfare x = with(3, 3, 3);
+        Nestedfare x = Given.with(3, 3, 3);
         x.addProduct(0, 0, 100);
         x.addProduct(1, 1, 51);
         x.setExpected(0, 2);
@@ -308,7 +296,7 @@ public final class ChangesTest {
     }
 
     private static void promise7Throws() {
-        Nestedfare x = with(10, 10, 10);
+        Nestedfare x = Given.with(10, 10, 10);
         x.addProduct(0, 0, 10);
         String before = Answers.of(x);
         for (int edge : EDGES) {
@@ -337,7 +325,7 @@ public final class ChangesTest {
     }
 
     private static void promise8() {
-        Nestedfare x = with(10, 10, 10);
+        Nestedfare x = Given.with(10, 10, 10);
         x.addProduct(0, 1, 30);
         x.ask(0);
         x.group(1, 2, 4, 5);
@@ -355,13 +343,14 @@ public final class ChangesTest {
         }
         Check.same("8 a throw changes nothing", Answers.of(x), before);
         x.endDay(100);
+        Check.noSuch("8 the first of yesterday", () -> x.cancel(0));
         Check.noSuch("8 of yesterday", () -> x.cancel(2));
         x.ask(0);
         Check.same("8 a new booking 0", x.cancel(0), 1);
     }
 
     private static void promise9Denied() {
-        Nestedfare x = with(10, 10, 10);
+        Nestedfare x = Given.with(10, 10, 10);
         x.addProduct(0, 0, 7);
         x.group(0, 2, 9, 100);
         x.ask(0);
@@ -374,7 +363,7 @@ public final class ChangesTest {
         Check.same("9 a day", x.days(), 1);
         Check.same("9 refusals stay", x.refused(Nestedfare.FULL), 0);
 
-        Nestedfare y = with(10, 0, 0);
+        Nestedfare y = Given.with(10, 0, 0);
         y.group(0, 0, 10, 1);
         y.group(0, 0, 1, 1);
         y.setSeats(0, 0, 0);
@@ -396,37 +385,44 @@ public final class ChangesTest {
         y.setSeats(3, 4, 5);
         Check.same("9 on all legs together", y.endDay(100), 3);
         Check.same("9 added up", y.earned(), -77 + 5 - 300);
+        y.group(0, 0, 3, 1);
+        y.setSeats(2, 2, 2);
+        Check.same("9 67 percent of three are 2.01, so three", y.endDay(67), 1);
+        y.setSeats(3, 3, 3);
+        y.group(0, 0, 3, 1);
+        y.setSeats(2, 2, 2);
+        Check.same("9 66 percent of three are two", y.endDay(66), 0);
     }
 
     private static void promise9Learns() {
-        Nestedfare x = with(10, 10, 10);
+        Nestedfare x = Given.with(10, 10, 10);
         x.addProduct(0, 0, 100);
         x.addProduct(1, 2, 100);
         x.setExpected(1, 20);
-        askOften(x, 0, 3);
+        Given.askOften(x, 0, 3);
         x.endDay(100);
         Check.same("9 expected as asked", x.expected(0), 3);
         Check.same("9 nobody asked", x.expected(1), 0);
         Check.same("9 asked anew", x.asked(0), 0);
-        askOften(x, 0, 2);
+        Given.askOften(x, 0, 2);
         x.endDay(100);
         Check.same("9 two and a half, rounded down", x.expected(0), 2);
         Check.sameFloat("9 two and a half", x.average(0), 2.5f);
         x.addProduct(2, 2, 100);
-        askOften(x, 2, 7);
+        Given.askOften(x, 2, 7);
         x.endDay(100);
         Check.same("9 added later, nobody before", x.expected(2), 2);
         Check.same("9 protected as on one day of three", x.protectedSeats(2, 34), 0);
         Check.same("9 protected as on one day of three", x.protectedSeats(2, 33), 7);
         Check.same("9 5 of three days", x.expected(0), 1);
-        askOften(x, 0, 35);
+        Given.askOften(x, 0, 35);
         x.endDay(100);
         Check.same("9 more than 20 count whole", x.expected(0), 10);
         Check.same("9 20 stands for more", x.protectedSeats(0, 1), 20);
     }
 
     private static void promise9Throws() {
-        Nestedfare x = with(10, 10, 10);
+        Nestedfare x = Given.with(10, 10, 10);
         x.addProduct(0, 0, 100);
         x.ask(0);
         String before = Answers.of(x);

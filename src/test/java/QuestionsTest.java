@@ -8,6 +8,7 @@ public final class QuestionsTest {
         promise13();
         promise14();
         promises15And16();
+        promises15And16OfThoseToCome();
         promises15And16OfManyProducts();
         promise17();
         promise18();
@@ -18,20 +19,8 @@ public final class QuestionsTest {
         Check.finish();
     }
 
-    private static Nestedfare with(int first, int second, int third) {
-        Nestedfare x = new Nestedfare();
-        x.setSeats(first, second, third);
-        return x;
-    }
-
-    private static void askOften(Nestedfare x, int product, int times) {
-        for (int i = 0; i < times; i++) {
-            x.ask(product);
-        }
-    }
-
     private static void promises10And11() {
-        Nestedfare x = with(1, 1, 1);
+        Nestedfare x = Given.with(1, 1, 1);
         for (int i = 0; i < 8; i++) {
             Check.same("10 products", x.products(), i);
             Check.same("11 days", x.days(), i);
@@ -43,7 +32,7 @@ public final class QuestionsTest {
     }
 
     private static void promise12() {
-        Nestedfare x = with(5, 5, 5);
+        Nestedfare x = Given.with(5, 5, 5);
         x.addProduct(1, 2, 9);
         x.ask(0);
         x.group(0, 1, 3, 9);
@@ -60,7 +49,7 @@ public final class QuestionsTest {
     }
 
     private static void promise13() {
-        Nestedfare x = with(10, 9, 1);
+        Nestedfare x = Given.with(10, 9, 1);
         Check.same("13 at 100", x.authorised(0), 10);
         x.setRate(91);
         Check.same("13 nine tenths of a seat", x.authorised(0), 10);
@@ -77,14 +66,14 @@ public final class QuestionsTest {
     }
 
     private static void promise14() {
-        Nestedfare x = with(10, 10, 10);
+        Nestedfare x = Given.with(10, 10, 10);
         x.addProduct(0, 1, 200);
         x.addProduct(1, 2, 300);
-        askOften(x, 0, 4);
+        Given.askOften(x, 0, 4);
         Check.same("14 without past days", x.protectedSeats(0, 1), 0);
         x.endDay(100);
-        askOften(x, 0, 1);
-        askOften(x, 1, 2);
+        Given.askOften(x, 0, 1);
+        Given.askOften(x, 1, 2);
         x.endDay(100);
         // Of two days: product 0 was asked for 4 times and once, product 1 not at all and twice.
         Check.same("14 as much as half", x.protectedSeats(0, 100), 4);
@@ -97,7 +86,7 @@ public final class QuestionsTest {
         Check.same("14 above its half", x.protectedSeats(1, 151), 1);
         Check.same("14 over leg 2", x.protectedSeats(2, 1), 2);
         Check.same("14 dearest", x.protectedSeats(1, 1000), 0);
-        askOften(x, 0, 25);
+        Given.askOften(x, 0, 25);
         x.endDay(100);
         Check.same("14 at most 20", x.protectedSeats(0, 1), 20);
         for (int leg : NO_LEGS) {
@@ -114,7 +103,7 @@ public final class QuestionsTest {
     }
 
     private static void promises15And16() {
-        Nestedfare x = with(1, 1, 1);
+        Nestedfare x = Given.with(1, 1, 1);
         worths("no products", x, 0);
         x.addProduct(0, 2, 100);
         worths("none expected", x, 0);
@@ -138,8 +127,25 @@ public final class QuestionsTest {
         worths("no seats", x, 0);
     }
 
+    private static void promises15And16OfThoseToCome() {
+        Nestedfare x = Given.with(10, 0, 0);
+        x.addProduct(0, 0, 50);
+        x.setExpected(0, 3);
+        worths("three to come", x, 150);
+        x.ask(0);
+        worths("who has asked comes no more", x, 100);
+        x.cancel(0);
+        worths("nor who has cancelled", x, 100);
+        Given.askOften(x, 0, 3);
+        worths("more have asked than were expected", x, 0);
+        x.setExpected(0, 5);
+        worths("one of five", x, 50);
+        x.endDay(100);
+        worths("a new day, four expected", x, 200);
+    }
+
     private static void promises15And16OfManyProducts() {
-        Nestedfare x = with(10, 10, 10);
+        Nestedfare x = Given.with(10, 10, 10);
         x.addProduct(0, 1, 40);
         x.addProduct(0, 1, 90);
         x.addProduct(0, 1, 60);
@@ -160,7 +166,7 @@ public final class QuestionsTest {
     }
 
     private static void promise17() {
-        Nestedfare x = with(0, 1, 10);
+        Nestedfare x = Given.with(0, 1, 10);
         x.addProduct(0, 0, 80);
         x.addProduct(0, 1, 200);
         x.addProduct(2, 2, 5);
@@ -183,7 +189,7 @@ public final class QuestionsTest {
     }
 
     private static void promise18() {
-        Nestedfare x = with(2, 3, 10);
+        Nestedfare x = Given.with(2, 3, 10);
         x.addProduct(0, 1, 70);
         x.addProduct(1, 1, 20);
         x.addProduct(2, 2, 9);
@@ -199,6 +205,9 @@ public final class QuestionsTest {
         Check.same("18 ten seats", x.displaced(2, 2, 10), 90);
         Check.same("18 full on leg 0", x.displaced(0, 2, 3), Nestedfare.FULL);
         Check.same("18 full on leg 1", x.displaced(1, 2, 4), Nestedfare.FULL);
+        x.setExpected(0, 4);
+        Check.same("18 more to come than seats", x.displaced(0, 1, 1), 70);
+        x.setExpected(0, 2);
         Check.same("18 asking is no refusal", x.refused(Nestedfare.FULL), 0);
         x.setRate(50);
         Check.same("18 left, not authorised", x.displaced(0, 0, 3), Nestedfare.FULL);
@@ -213,14 +222,14 @@ public final class QuestionsTest {
     }
 
     private static void promises19To21() {
-        Nestedfare x = with(1, 1, 1);
+        Nestedfare x = Given.with(1, 1, 1);
         x.addProduct(0, 0, 10);
         x.addProduct(1, 1, 10);
         Check.same("19 0 at first", x.expected(0), 0);
         x.setExpected(1, 4);
         Check.same("19 as set", x.expected(1), 4);
         Check.sameFloat("20 without past days", x.average(0), 0.0f);
-        askOften(x, 0, 41);
+        Given.askOften(x, 0, 41);
         Check.same("19 asking leaves it", x.expected(1), 4);
         Check.same("21 all who asked, refused ones too", x.asked(0), 41);
         Check.same("21 the other one", x.asked(1), 0);
@@ -241,13 +250,13 @@ public final class QuestionsTest {
     }
 
     private static void promise22() {
-        Nestedfare x = with(1, 2, 1);
+        Nestedfare x = Given.with(1, 2, 1);
         x.addProduct(0, 0, 10);
         x.addProduct(1, 1, 50);
         x.addProduct(1, 1, 10);
-        askOften(x, 0, 3);
+        Given.askOften(x, 0, 3);
         x.group(0, 0, 1, 5);
-        askOften(x, 1, 2);
+        Given.askOften(x, 1, 2);
         Check.same("22 full", x.refused(Nestedfare.FULL), 3);
         x.endDay(100);
         x.ask(2);
@@ -261,9 +270,9 @@ public final class QuestionsTest {
     }
 
     private static void promises23And24() {
-        Nestedfare x = with(10, 10, 10);
+        Nestedfare x = Given.with(10, 10, 10);
         x.addProduct(0, 2, 1000);
-        askOften(x, 0, 2);
+        Given.askOften(x, 0, 2);
         x.group(0, 2, 4, 2500);
         Check.same("23 added up", x.revenue(), 12000);
         Check.same("24 not yet", x.earned(), 0);
@@ -286,7 +295,7 @@ public final class QuestionsTest {
     }
 
     private static void questionsChangeNothing() {
-        Nestedfare x = with(4, 3, 2);
+        Nestedfare x = Given.with(4, 3, 2);
         x.addProduct(0, 2, 90);
         x.addProduct(1, 1, 40);
         x.setExpected(0, 2);
