@@ -643,17 +643,21 @@ public final class Nestedfare {
             int step = cellOf(on0, on1, on2);
             for (int a = left0; a >= on0; a--) {
                 for (int b = left1; b >= on1; b--) {
-                    for (int c = left2; c >= on2; c--) {
-                        raise(cellOf(a, b, c), step, product.fare);
-                    }
+                    raiseRow(cellOf(a, b, on2), cellOf(a, b, left2), step, product.fare);
                 }
             }
         }
 
-        private void raise(int cell, int step, int fare) {
-            int without = cell - step;
-            if (without >= 0 && without < values.length && cell >= 0 && cell < values.length) {
-                values[cell] = Math.max(values[cell], values[without] + fare);
+        /** No calls in this loop: it runs a hundred thousand times for one full table. */
+        private void raiseRow(int least, int most, int step, int fare) {
+            if (least - step < 0 || step < 0 || most >= values.length) {
+                return;
+            }
+            for (int cell = most; cell >= least; cell--) {
+                int raised = values[cell - step] + fare;
+                if (raised > values[cell]) {
+                    values[cell] = raised;
+                }
             }
         }
 
