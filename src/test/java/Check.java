@@ -1,3 +1,9 @@
+import java.lang.reflect.InvocationTargetException;
+import java.lang.reflect.Method;
+import java.lang.reflect.Modifier;
+import java.util.Map;
+import java.util.TreeMap;
+
 /** Counts answers that are not as due, and says which. */
 final class Check {
     /** A call that answers a number, or throws. */
@@ -7,8 +13,35 @@ final class Check {
 
     private static int made = 0;
     private static int wrong = 0;
+    private static String test = "";
 
     private Check() {
+    }
+
+    /** Runs every test of a class: its static methods that take nothing and answer nothing. */
+    static void tests(Class<?> tests) throws IllegalAccessException {
+        Map<String, Method> byName = new TreeMap<>();
+        for (Method m : tests.getDeclaredMethods()) {
+            if (Modifier.isStatic(m.getModifiers()) && !m.isSynthetic()
+                    && m.getParameterCount() == 0 && m.getReturnType() == void.class) {
+                byName.put(m.getName(), m);
+            }
+        }
+        for (Method m : byName.values()) {
+            test = m.getName() + ": ";
+            run(m);
+        }
+        test = "";
+        System.out.println(byName.size() + " tests");
+        finish();
+    }
+
+    private static void run(Method m) throws IllegalAccessException {
+        try {
+            m.invoke(null);
+        } catch (InvocationTargetException e) {
+            same("the test itself", "threw " + e.getCause(), "threw nothing");
+        }
     }
 
     static void same(String what, long got, long due) {
@@ -19,7 +52,7 @@ final class Check {
         made++;
         if (!got.equals(due)) {
             wrong++;
-            System.out.println(what + " answered " + got + ", due is " + due);
+            System.out.println(test + what + " answered " + got + ", due is " + due);
         }
     }
 
