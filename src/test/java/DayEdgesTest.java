@@ -202,6 +202,18 @@ public final class DayEdgesTest {
         Check.same("three hundred", x.asked(0), 300);
     }
 
+    static void promise21AsManyAsCallsCanAsk() {
+        Nestedfare x = new Nestedfare();
+        x.addProduct(0, 2, 1000);
+        Given.askOften(x, 0, 505);
+        Check.same("asked", x.asked(0), 505);
+        x.endDay(100);
+        Check.same("expected", x.expected(0), 505);
+        Check.sameFloat("average", x.average(0), 505.0f);
+        Check.same("protected", x.protectedSeats(0, 999), 20);
+        Check.same("refused", x.refused(Nestedfare.FULL), 505);
+    }
+
     // ---- promise 14: the protected seats
 
     static void promise14WithoutPastDays() {

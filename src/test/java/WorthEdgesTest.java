@@ -185,6 +185,34 @@ public final class WorthEdgesTest {
         return best;
     }
 
+    static void promise15AskedAgainItIsTheSame() {
+        for (int first = 0; first < 3; first++) {
+            for (int last = first; last < 3; last++) {
+                Nestedfare x = Given.with(10, 10, 10);
+                x.addProduct(first, last, 10);
+                x.setExpected(0, 4);
+                worths("over " + first + last, x, 40);
+                worths("once more over " + first + last, x, 40);
+                x.setExpected(0, 1);
+                worths("fewer over " + first + last, x, 10);
+            }
+        }
+    }
+
+    static void promise15OneSeatAndOneToCome() {
+        for (int first = 0; first < 3; first++) {
+            for (int last = first; last < 3; last++) {
+                Nestedfare x = Given.with(1, 1, 1);
+                x.addProduct(first, last, 10);
+                worths("none over " + first + last, x, 0);
+                x.setExpected(0, 1);
+                worths("one over " + first + last, x, 10);
+                x.setExpected(0, 0);
+                worths("none again over " + first + last, x, 0);
+            }
+        }
+    }
+
     static void promise15OneDearerOrTwoTogether() {
         for (int fare = 99; fare <= 101; fare++) {
             Nestedfare x = Given.with(1, 1, 1);
