@@ -178,6 +178,14 @@ public final class DayEdgesTest {
         Check.sameFloat("average", x.average(0), 0.0f);
     }
 
+    static void promise20TodayDoesNotCount() {
+        Nestedfare x = learnt(3, 1);
+        Given.askOften(x, 0, 9);
+        Check.sameFloat("average of the past days", x.average(0), 2.0f);
+        Check.same("expected", x.expected(0), 2);
+        Check.same("today", x.asked(0), 9);
+    }
+
     static void promise20OfOneDayAndOfMany() {
         Check.sameFloat("nobody", learnt(0).average(0), 0.0f);
         Check.sameFloat("one", learnt(1).average(0), 1.0f);
@@ -220,6 +228,18 @@ public final class DayEdgesTest {
         Nestedfare x = learnt();
         Given.askOften(x, 0, 5);
         Check.same("none", x.protectedSeats(1, 1), 0);
+    }
+
+    static void promise14TodayDoesNotCount() {
+        Nestedfare x = learnt(3, 1);
+        int[] asked = {2, 4, 20, 40};
+        int before = 0;
+        for (int many : asked) {
+            Given.askOften(x, 0, many - before);
+            before = many;
+            Check.same("on one of two days, 50, " + many + " today", x.protectedSeats(1, 50), 3);
+            Check.same("on one of two days, 51, " + many + " today", x.protectedSeats(1, 51), 1);
+        }
     }
 
     static void promise14NobodyAsked() {
@@ -322,6 +342,8 @@ public final class DayEdgesTest {
         Nestedfare x = learnt(0);
         x.addProduct(2, 2, 100);
         Check.same("nobody yet", x.protectedSeats(2, 1), 0);
+        Check.same("none expected yet", x.expected(1), 0);
+        Check.sameFloat("none on average yet", x.average(1), 0.0f);
         Given.askOften(x, 1, 3);
         x.endDay(100);
         Check.same("on one day of two, 50", x.protectedSeats(2, 50), 3);

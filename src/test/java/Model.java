@@ -12,6 +12,17 @@ final class Model {
         int expected;
         int today;
         List<Integer> past = new ArrayList<>();
+
+        Sort copy() {
+            Sort other = new Sort();
+            other.first = first;
+            other.last = last;
+            other.fare = fare;
+            other.expected = expected;
+            other.today = today;
+            other.past.addAll(past);
+            return other;
+        }
     }
 
     /** first, last, seats, sum of fares, 1 if it is cancelled */
@@ -22,6 +33,23 @@ final class Model {
     private int days = 0;
     private int rate = 100;
     private long earned = 0;
+
+    /** Another model in the same state. */
+    Model copy() {
+        Model other = new Model();
+        for (int[] b : bookings) {
+            other.bookings.add(b.clone());
+        }
+        for (Sort s : sorts) {
+            other.sorts.add(s.copy());
+        }
+        System.arraycopy(seats, 0, other.seats, 0, seats.length);
+        System.arraycopy(refused, 0, other.refused, 0, refused.length);
+        other.days = days;
+        other.rate = rate;
+        other.earned = earned;
+        return other;
+    }
 
     private static void legs(int... legs) {
         for (int leg : legs) {
@@ -241,6 +269,10 @@ final class Model {
 
     long worth() {
         return most(0, left(0), left(1), left(2), new HashMap<>());
+    }
+
+    long worthByTable() {
+        return worth();
     }
 
     long bid(int leg) {

@@ -129,7 +129,7 @@ public final class ModelTest {
         int p = near(0, 7);
         if (kind < 78) {
             both(at + " worth", () -> x.worth(), () -> model.worth());
-            both(at + " worthByTable", () -> x.worthByTable(), () -> model.worth());
+            both(at + " worthByTable", () -> x.worthByTable(), () -> model.worthByTable());
         } else if (kind < 82) {
             both(at + " bid " + leg, () -> x.bid(leg), () -> model.bid(leg));
         } else if (kind < 86) {

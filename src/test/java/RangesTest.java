@@ -41,6 +41,32 @@ public final class RangesTest {
         Check.same("nothing protected", x.protectedSeats(0, 1), 0);
     }
 
+    static void promise1TwoObjectsHaveNothingInCommon() {
+        Nestedfare x = Given.with(4, 5, 6);
+        Nestedfare y = new Nestedfare();
+        String before = Answers.of(y);
+        x.addProduct(0, 2, 100);
+        x.setRate(50);
+        Given.askOften(x, 0, 7);
+        x.endDay(100);
+        x.setExpected(0, 9);
+        x.group(0, 1, 2, 3000);
+        x.group(0, 0, 1, 1);
+        Check.same("the other one is still new", Answers.of(y), before);
+        Check.noSuch("no booking of the first one", () -> y.cancel(0));
+        Check.same("the rate of the other one", y.setRate(100), 100);
+        String used = Answers.of(x);
+        y.setSeats(1, 1, 1);
+        y.addProduct(1, 1, 7);
+        y.ask(0);
+        y.ask(0);
+        y.cancel(0);
+        Check.same("the first one is as it was", Answers.of(x), used);
+        Check.same("its booking too", x.cancel(0), 2);
+        y.endDay(0);
+        Check.same("its day too", x.days(), 1);
+    }
+
     // ---- promise 2
 
     static void promise2SeatsLeast() {

@@ -322,6 +322,29 @@ public final class RefusalsTest {
         Check.same("full, on all days", x.refused(FULL), 3);
     }
 
+    static void promise22EachKindIsCountedOnAllDays() {
+        Nestedfare x = guarded(5, 3);
+        for (int day = 1; day <= 3; day++) {
+            x.setSeats(10, 10, 3);
+            x.ask(1);
+            x.setExpected(0, 20);
+            x.group(2, 2, 1, 99);
+            x.setSeats(0, 0, 0);
+            x.group(0, 0, 1, 1);
+            for (int why = BELOW; why <= FULL; why++) {
+                Check.same("kind " + why + " on day " + day, x.refused(why), day);
+            }
+            // Product 0 is asked for as often as on the day before, so that it is protected on the next one, too.
+            x.setSeats(10, 10, 10);
+            x.setExpected(0, 0);
+            Given.askOften(x, 0, 3);
+            x.endDay(100);
+            for (int why = BELOW; why <= FULL; why++) {
+                Check.same("kind " + why + " after day " + day, x.refused(why), day);
+            }
+        }
+    }
+
     static void promise22ABookingIsNoRefusal() {
         Nestedfare x = wanted();
         x.ask(0);
